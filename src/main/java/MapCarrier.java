@@ -591,7 +591,7 @@ public final class MapCarrier {
             return canTake(end) ? end : NONE;
         }
 
-        /** Asks the shepherd here, if there is one to ask; returns the end that is told, if it can be taken. */
+        /** Asks the shepherd here, if there is one to ask; returns the told end if it can be taken. */
         private int askedEnd() {
             boolean met = land.isPlace(at) && (land.shepherds[at] || at == guest);
             if (!met || askedAt[at] || coins == 0) {
@@ -646,7 +646,7 @@ public final class MapCarrier {
             }
         }
 
-        /** Whether remembered exits of open roads lead from here to a goal, within as many as there can be places. */
+        /** Whether remembered exits of open roads lead from here to a goal, within 10 of them. */
         boolean findsByMemory(int newGoal) {
             int place = at;
             for (int i = 0; i < MOST_PLACES && place != newGoal; i++) {

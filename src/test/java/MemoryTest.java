@@ -38,6 +38,11 @@ public final class MemoryTest {
         Lands.goTo(x, 0);
         Lands.goTo(x, 3);
         holds("at most 9", x, 3, 0, 1, 9);
+        x.sleep(8);
+        holds("eight nights later", x, 3, 0, 1, 1);
+        Lands.goTo(x, 0);
+        Lands.goTo(x, 3);
+        holds("from the weakest on", x, 3, 0, 1, 4);
     }
 
     private static void sleep() {

@@ -3,7 +3,7 @@ import java.util.function.Supplier;
 /** Long runs of calls, drawn from fixed seeds, on the class and on the plain model: all answers are the same. */
 public final class ModelTest {
     private static final Check CHECK = new Check();
-    private static final int RUNS = 1500;
+    private static final int RUNS = 600;
     private static final int CALLS = 512;
     private static final int[] EDGES = {-1, 10, 100, 101, 0, Integer.MIN_VALUE, Integer.MAX_VALUE};
 

@@ -87,6 +87,7 @@ public final class ShepherdTest {
         CHECK.same("8: goes on all the same", x.goOn(2), 2);
         asked("paid in vain", x, 1, 0);
         holds("nothing is told", x, 2, 0, -1, 0);
+        tellsNoClosedExit();
         MapCarrier alone = Lands.withPlaces(2);
         alone.turnShepherd(0);
         alone.pay(3);
@@ -94,6 +95,18 @@ public final class ShepherdTest {
         CHECK.same("8: no step", alone.goOn(1), 0);
         asked("stays paid", alone, 1, 2);
         CHECK.same("29: in vain", alone.errandsInVain(), 1);
+    }
+
+    private static void tellsNoClosedExit() {
+        MapCarrier x = Lands.withPlaces(3);
+        x.addRoad(0, 1, 1);
+        x.addRoad(0, 2, 1);
+        x.turnRoad(0, 1);
+        x.turnShepherd(0);
+        x.pay(1);
+        CHECK.same("8: there, back, and over", Lands.goTo(x, 2), 2);
+        asked("where the way is closed", x, 1, 0);
+        holds("the closed exit is not told", x, 2, 0, -1, 0);
     }
 
     private static void tellsATriedExit() {

@@ -7,7 +7,9 @@ public final class WouldTest {
 
     public static void main(String[] args) {
         wouldWalk();
+        wouldWalkByMemoryAtOnce();
         bestShepherd();
+        bestOfTenPlaces();
         bestOfSeveral();
         wrongly();
         meanMiles();
@@ -34,6 +36,14 @@ public final class WouldTest {
         wouldWalk("closed", x, 3, -1);
     }
 
+    /** Nothing was asked before that could have left behind what is remembered. */
+    private static void wouldWalkByMemoryAtOnce() {
+        MapCarrier x = Lands.fork();
+        Lands.goTo(x, 3);
+        Lands.goTo(x, 0);
+        wouldWalk("by what is remembered, the first time", x, 3, 7);
+    }
+
     private static void wouldWalk(String what, MapCarrier x, int goal, int due) {
         String before = Answers.all(x);
         CHECK.same("31: wouldWalk, " + what, x.wouldWalk(goal), due);
@@ -56,6 +66,19 @@ public final class WouldTest {
         bestShepherd("nothing to be won on the way back", x, 0, -1);
         Lands.goTo(x, 0);
         bestShepherd("remembered", x, 3, -1);
+    }
+
+    private static void bestOfTenPlaces() {
+        MapCarrier x = Lands.withPlaces(10);
+        x.pay(1);
+        x.addRoad(0, 9, 1);
+        x.addRoad(9, 1, 8);
+        x.addRoad(9, 2, 7);
+        bestShepherd("at the tenth place", x, 2, 9);
+        for (int place = 0; place < 10; place++) {
+            x.turnShepherd(place);
+        }
+        bestShepherd("at none where there is one everywhere", x, 2, -1);
     }
 
     /** A row of forks with a dead end each: one coin is worth the most at the longest one. */
