@@ -44,7 +44,7 @@ public final class MapCarrier {
             throw new IllegalArgumentException("a road leads to another place");
         }
         checkRange(miles, MOST_MILES);
-        if (land.isFull(a) || land.isFull(b)) {
+        if (!land.hasRoom(a) || !land.hasRoom(b)) {
             throw new IllegalStateException("a place has 4 exits");
         }
         return land.join(a, b, miles);
@@ -341,8 +341,8 @@ public final class MapCarrier {
             return place >= 0 && place < places;
         }
 
-        boolean isFull(int place) {
-            return isPlace(place) && exits[place] >= MOST_EXITS;
+        boolean hasRoom(int place) {
+            return isPlace(place) && exits[place] < MOST_EXITS;
         }
 
         int endAt(int place, int exit) {
@@ -350,8 +350,11 @@ public final class MapCarrier {
             return there ? place * MOST_EXITS + exit : NONE;
         }
 
-        /** Makes a road between two places that are not full; returns its exit at the first. */
+        /** Makes a road between two places that have room; returns its exit at the first. */
         int join(int a, int b, int miles) {
+            if (!hasRoom(a) || !hasRoom(b)) {
+                return NONE;
+            }
             int exit = exits[a];
             int here = a * MOST_EXITS + exit;
             int there = b * MOST_EXITS + exits[b];
@@ -370,12 +373,13 @@ public final class MapCarrier {
         }
 
         boolean turnEnd(int end) {
-            if (!isEnd(end)) {
+            int twin = twinOf(end);
+            if (!isEnd(end) || !isEnd(twin)) {
                 return false;
             }
             boolean turned = !open[end];
             open[end] = turned;
-            open[twins[end]] = turned;
+            open[twin] = turned;
             return turned;
         }
 
@@ -436,7 +440,9 @@ public final class MapCarrier {
         }
 
         private int milesBy(int end) {
-            return open[end] ? lengths[end] + far[leads[end]] : UNREACHED;
+            int next = leads[end];
+            boolean leadsOn = open[end] && next >= 0 && next < MOST_PLACES;
+            return leadsOn ? lengths[end] + far[next] : UNREACHED;
         }
     }
 
@@ -632,8 +638,12 @@ public final class MapCarrier {
         }
 
         private void doubleBack() {
-            wayLength--;
-            int end = way[wayLength];
+            int last = wayLength - 1;
+            if (last < 0 || last >= MOST_ROADS) {
+                return;
+            }
+            wayLength = last;
+            int end = way[last];
             int miles = land.milesAt(end);
             walked += miles;
             doubled += miles;
@@ -641,7 +651,7 @@ public final class MapCarrier {
         }
 
         private void rememberWay() {
-            for (int i = 0; i < wayLength; i++) {
+            for (int i = 0; i < wayLength && i < MOST_ROADS; i++) {
                 memory.confirm(goal, placeOfEnd(way[i]), exitOfEnd(way[i]));
             }
         }

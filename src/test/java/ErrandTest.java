@@ -126,13 +126,9 @@ public final class ErrandTest {
         CHECK.same("23: the new exit", x.remembered(3, 0), 2);
     }
 
-    /** As many roads as an errand can take in vain, each there and back: two between all neighbours of a ring. */
+    /** As many roads as an errand can take in vain, each there and back. */
     private static void longestErrand() {
-        MapCarrier x = Lands.withPlaces(10);
-        for (int place = 0; place < 9; place++) {
-            x.addRoad(place, (place + 1) % 9, 9);
-            x.addRoad(place, (place + 1) % 9, 9);
-        }
+        MapCarrier x = Lands.longest();
         CHECK.same("31: would be in vain", x.wouldWalk(9), -1);
         CHECK.same("7: no way", x.beginErrand(9), -1);
         CHECK.same("8: eighteen roads out", x.goOn(18), 18);
