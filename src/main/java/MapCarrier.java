@@ -440,9 +440,11 @@ public final class MapCarrier {
         }
 
         private int milesBy(int end) {
+            if (end < 0 || end >= MOST_ENDS || !open[end]) {
+                return UNREACHED;
+            }
             int next = leads[end];
-            boolean leadsOn = open[end] && next >= 0 && next < MOST_PLACES;
-            return leadsOn ? lengths[end] + far[next] : UNREACHED;
+            return next >= 0 && next < MOST_PLACES ? lengths[end] + far[next] : UNREACHED;
         }
     }
 

@@ -20,6 +20,7 @@ public final class EdgeMemoryTest {
         nightsBeyond();
         nightsOnAnErrand();
         aClosedOneIsNotTaken();
+        anotherGoalsIsNotTaken();
         knowsTheGoalItself();
         knowsNothing();
         knowsByOneExitAndByNine();
@@ -247,6 +248,23 @@ public final class EdgeMemoryTest {
         y.goOn(1);
         CHECK.same("18: it has been tried", y.whereIs(), 1);
         holds("remembered all the same", y, 3, 0, 1, 3);
+    }
+
+    /** "If an exit is remembered there for this goal": not the one that is remembered there for another goal. */
+    private static void anotherGoalsIsNotTaken() {
+        for (int known = 1; known <= 3; known++) {
+            MapCarrier x = Lands.star();
+            Lands.goTo(x, known + 1);
+            Lands.goTo(x, 0);
+            holds("for another goal", x, known + 1, 0, known, 3);
+            x.turnShepherd(0);
+            x.pay(1);
+            x.beginErrand(5);
+            CHECK.same("8: a step", x.goOn(1), 1);
+            CHECK.same("18: by the smallest number", x.whereIs(), 1);
+            CHECK.same("30: as nothing was remembered, the shepherd was asked", x.asked(), 1);
+            holds("nothing for this goal", x, 5, 0, -1, 0);
+        }
     }
 
     /** "True at the goal itself", with nothing remembered. */

@@ -20,6 +20,7 @@ public final class EdgeWouldTest {
         noneWithoutACoin();
         noneWithoutAWay();
         noneWhereOneIsEverywhere();
+        besideShepherdsWhoAreThere();
         noneThatIsAsGood();
         noneThatIsWorse();
         oneMileIsEnough();
@@ -214,6 +215,19 @@ public final class EdgeWouldTest {
         would("everywhere", x, 9, 17, -1);
         x.turnShepherd(9);
         would("but at the goal", x, 9, 17, -1);
+    }
+
+    /** "The place without a shepherd where one would help": one who is at another place or at the goal stops none. */
+    private static void besideShepherdsWhoAreThere() {
+        for (int there = 1; there <= 9; there++) {
+            MapCarrier x = forks(9, 2, 1);
+            x.pay(9);
+            x.turnShepherd(there);
+            int now = there == 9 ? 18 : 17;
+            would("one at " + there, x, 9, now, 0);
+            x.turnShepherd(0);
+            would("one at 0 as well", x, 9, now - 1, there == 1 ? 2 : 1);
+        }
     }
 
     /** "Fewer than now": as many are not fewer. */
